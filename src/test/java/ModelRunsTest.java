@@ -1,4 +1,5 @@
 import java.util.ArrayList;
+import java.util.Arrays;
 import java.util.List;
 
 /** Long runs of calls, the same each time, on MaskHall and on the Model side by side. */
@@ -17,7 +18,7 @@ public final class ModelRunsTest {
     private final List<String> log = new ArrayList<>();
     private final int[] outcomes = new int[3];
     private final int[] nights = new int[4];
-    private final int[] ways = new int[8];
+    private final int[] ways = new int[8]; // from -1 on
     private final int[] thrown = new int[3];
     private int shares;
 
@@ -44,7 +45,7 @@ public final class ModelRunsTest {
             } else {
                 calls += anyCall();
             }
-            calls += compareAsked();
+            compareAsked();
             nights[model.state]++;
         }
     }
@@ -116,9 +117,9 @@ public final class ModelRunsTest {
     }
 
     private int anyCall() {
-        int mask = chance(3) ? below(9) - 2 : below(6);
-        int other = chance(3) ? below(9) - 2 : below(6);
-        int thing = chance(3) ? below(7) - 2 : below(4);
+        int mask = chance(3) ? odd(6) : below(6);
+        int other = chance(3) ? odd(6) : below(6);
+        int thing = chance(3) ? odd(4) : below(4);
         switch (below(24)) {
             case 0 -> knows(mask, thing, chance(50));
             case 1 -> has(thing, other);
@@ -223,8 +224,8 @@ public final class ModelRunsTest {
 
     // ---- what is asked
 
-    /** Asks more than the 512 calls: questions change nothing, so that they may be left out of them. */
-    private int compareAsked() {
+    /** Questions change nothing, and are not counted among the 512 calls. */
+    private void compareAsked() {
         both("state", (h, m, q) -> q ? h.state() : m.state);
         both("next", (h, m, q) -> q ? h.next() : m.next());
         both("can", (h, m, q) -> q ? h.can() : m.can());
@@ -245,7 +246,6 @@ public final class ModelRunsTest {
             both("isKnown " + mask + " " + prop, (h, m, q) -> q ? h.isKnown(mask, prop) : m.isKnown(mask, prop));
         }
         shares += hall.share(0) > 0 ? 1 : 0;
-        return 0;
     }
 
     // ---- comparing
@@ -288,18 +288,24 @@ public final class ModelRunsTest {
         }
         enough &= ways[7] == 0;
         if (!enough) {
-            System.out.println("the runs do not reach enough: outcomes " + java.util.Arrays.toString(outcomes)
-                    + " nights " + java.util.Arrays.toString(nights) + " thrown " + java.util.Arrays.toString(thrown)
-                    + " ways " + java.util.Arrays.toString(ways) + " shares " + shares);
+            System.out.println("the runs do not reach enough: outcomes " + Arrays.toString(outcomes)
+                    + " nights " + Arrays.toString(nights) + " thrown " + Arrays.toString(thrown)
+                    + " ways " + Arrays.toString(ways) + " shares " + shares);
             System.exit(1);
         }
-        System.out.println("outcomes " + java.util.Arrays.toString(outcomes) + " nights " + java.util.Arrays.toString(nights)
-                + " ways " + java.util.Arrays.toString(ways));
+        System.out.println("outcomes " + Arrays.toString(outcomes) + " nights " + Arrays.toString(nights)
+                + " ways " + Arrays.toString(ways));
     }
 
     private int below(int end) {
         seed = seed * 6364136223846793005L + 1442695040888963407L;
         return (int) ((seed >>> 33) % end);
+    }
+
+    /** An argument that is at the edge of its range, or out of it, also far out. */
+    private int odd(int end) {
+        int[] values = {Integer.MIN_VALUE, -2, -1, 0, end - 1, end, end + 1, 32, Integer.MAX_VALUE};
+        return values[below(values.length)];
     }
 
     private boolean chance(int percent) {

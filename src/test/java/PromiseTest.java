@@ -70,6 +70,23 @@ public final class PromiseTest {
         return x;
     }
 
+    /** A night that ended with 0 and 1 on; 0 knows secret 0 and has prop 0, prop 1 lies about. */
+    private static MaskHall ended(boolean isClosed) {
+        MaskHall x = new MaskHall();
+        x.knows(0, 0, true);
+        x.has(0, 0);
+        x.gag(1, 1, -1);
+        x.step(MaskHall.ENTER, 1, 0, 0);
+        x.step(MaskHall.EXIT, isClosed ? 2 : 3, 0, 0);
+        x.night(4);
+        enterAll(x, 0);
+        due(MaskHall.DONE, x.enter(1));
+        enterAll(x, 2);
+        x.exit(2);
+        due(isClosed ? MaskHall.CLOSED : MaskHall.LATE, x.state());
+        return x;
+    }
+
     private static void enterAll(MaskHall x, int... masks) {
         for (int mask : masks) {
             due(MaskHall.TAKEN, x.enter(mask));
@@ -267,8 +284,9 @@ public final class PromiseTest {
 
     private static void travel() {
         MaskHall x = new MaskHall();
-        x.ban(1);
-        x.ban(2);
+        for (int secret = 0; secret < 4; secret++) {
+            x.ban(secret);
+        }
         x.gag(1, 100, -1);
         x.step(MaskHall.MEET, 0, 1, 0);
         x.night(3);
@@ -281,8 +299,9 @@ public final class PromiseTest {
         due(25, x.play(0, 0));
         due(12, x.play(0, 0));
         x.travel();
-        due(true, x.ban(1));
-        due(true, x.ban(2));
+        for (int secret = 0; secret < 4; secret++) {
+            due(true, x.ban(secret));
+        }
         x.night(4);
         x.enter(0);
         due(100, x.play(0, 0));
@@ -380,6 +399,11 @@ public final class PromiseTest {
         due(MaskHall.TAKEN, x.exit(3));
         due(MaskHall.DONE, x.enter(3));
         dueThrow(STATE, () -> x.enter(1));
+        for (boolean isClosed : new boolean[] {true, false}) {
+            MaskHall over = ended(isClosed);
+            dueThrow(STATE, () -> over.enter(3));
+            due(4, over.count(0));
+        }
     }
 
     private static void exit() {
@@ -398,6 +422,11 @@ public final class PromiseTest {
         due(0, x.count(4));
         due(4, x.count(0));
         dueThrow(STATE, () -> x.exit(5));
+        for (boolean isClosed : new boolean[] {true, false}) {
+            MaskHall over = ended(isClosed);
+            dueThrow(STATE, () -> over.exit(0));
+            due(4, over.count(0));
+        }
     }
 
     private static void tell() {
@@ -462,6 +491,11 @@ public final class PromiseTest {
         due(MaskHall.TAKEN, y.tell(2, 1, 0));
         due(MaskHall.TAKEN, y.tell(0, 1, 0));
         due(0, y.next());
+        for (boolean isClosed : new boolean[] {true, false}) {
+            MaskHall over = ended(isClosed);
+            dueThrow(STATE, () -> over.tell(0, 1, 0));
+            due(4, over.count(0));
+        }
     }
 
     private static void give() {
@@ -495,6 +529,11 @@ public final class PromiseTest {
         dueThrow(STATE, () -> x.give(0, 1, 2));
         x.exit(1);
         dueThrow(STATE, () -> x.give(1, 0, 2));
+        for (boolean isClosed : new boolean[] {true, false}) {
+            MaskHall over = ended(isClosed);
+            dueThrow(STATE, () -> over.give(0, 1, 0));
+            due(4, over.count(0));
+        }
     }
 
     private static void take() {
@@ -519,6 +558,11 @@ public final class PromiseTest {
         due(0, x.holder(0));
         x.enter(1);
         dueThrow(STATE, () -> x.take(1, 0));
+        for (boolean isClosed : new boolean[] {true, false}) {
+            MaskHall over = ended(isClosed);
+            dueThrow(STATE, () -> over.take(0, 1));
+            due(4, over.count(0));
+        }
     }
 
     private static void greet() {
@@ -537,12 +581,19 @@ public final class PromiseTest {
         dueThrow(STATE, () -> x.greet(1, 0));
         enterAll(x, 1, 2);
         due(MaskHall.TAKEN, x.greet(0, 2));
+        due(MaskHall.TAKEN, x.greet(2, 0));
+        due(MaskHall.TAKEN, x.greet(1, 2));
         due(MaskHall.TAKEN, x.greet(2, 1));
         due(MaskHall.DONE, x.greet(1, 0));
         due(MaskHall.DONE, x.greet(0, 1));
         due(MaskHall.TAKEN, x.greet(0, 1));
-        due(8, x.count(0));
-        due(8, x.count(5));
+        due(10, x.count(0));
+        due(10, x.count(5));
+        for (boolean isClosed : new boolean[] {true, false}) {
+            MaskHall over = ended(isClosed);
+            dueThrow(STATE, () -> over.greet(0, 1));
+            due(4, over.count(0));
+        }
     }
 
     private static void play() {
@@ -581,6 +632,11 @@ public final class PromiseTest {
         x.enter(0);
         x.ill(0);
         dueThrow(STATE, () -> x.play(0, 0));
+        for (boolean isClosed : new boolean[] {true, false}) {
+            MaskHall over = ended(isClosed);
+            dueThrow(STATE, () -> over.play(0, 0));
+            due(4, over.count(0));
+        }
     }
 
     private static void state() {
@@ -636,32 +692,53 @@ public final class PromiseTest {
         // 0 can tell it to 1 ahead of the step; that the light is too short does not matter.
         due(true, x.can());
         x.enter(0);
+        due(MaskHall.LATE, x.state());
         due(false, x.can());
-        // 1 is to be told it later: it can't be told ahead of that.
-        x.step(MaskHall.TELL, 0, 1, 0);
-        x.night(9);
-        due(false, x.can());
-        x.ill(0);
-        x.ill(0);
-        due(false, x.can());
-        x = canvas(9, new int[] {0, 0, 1, 0}, new int[] {0, 1, 2, 0}, new int[] {0, 2, 3, 0});
-        due(false, x.can());
-        x = canvas(9, true, new int[] {0, 0, 1, 0}, new int[] {0, 1, 2, 0}, new int[] {0, 2, 3, 0});
+        x = canvas(9, true, new int[] {MaskHall.ENTER, 0, 1, 0});
         due(true, x.can());
-        // Who was told by a step can tell it to others: 0 is not needed for the telling to 4.
-        x = canvas(9, true, new int[] {0, 0, 1, 0}, new int[] {0, 4, 5, 0});
-        due(true, x.can());
-        // A step tells it twice to the same mask.
-        x = canvas(9, true, new int[] {0, 0, 1, 0}, new int[] {0, 0, 1, 0});
+        x.enter(0);
+        due(MaskHall.CLOSED, x.state());
         due(false, x.can());
-        // The telling to 1 ahead of the first step makes 1 know it in the second one.
-        x = canvas(9, true, new int[] {0, 1, 2, 0}, new int[] {0, 3, 1, 0});
-        due(false, x.can());
-        // Another secret is another one.
-        x = canvas(9, true, new int[] {0, 1, 2, 0}, new int[] {0, 3, 1, 1});
-        due(false, x.can());
+        tellings();
         illAndBanned();
         props();
+    }
+
+    private static void tellings() {
+        // 1 would have to know it for the first step, and not to know it ahead of the second one.
+        due(false, canvas(9, true, new int[] {0, 1, 2, 0}, new int[] {0, 0, 1, 0}).can());
+        due(true, canvas(9, true, new int[] {0, 0, 1, 0}, new int[] {0, 1, 2, 0}).can());
+        // The same with another secret, which nobody knows, in the second step.
+        due(false, canvas(9, true, new int[] {0, 1, 2, 0}, new int[] {0, 0, 1, 1}).can());
+        // Nobody knows it at all.
+        due(false, canvas(9, false, new int[] {0, 0, 1, 0}).can());
+        // A row of steps hands it on.
+        due(true, canvas(9, true, new int[] {0, 0, 1, 0}, new int[] {0, 1, 2, 0}, new int[] {0, 2, 3, 0}).can());
+        // 4 can be told it by anybody who knows it by then.
+        due(true, canvas(9, true, new int[] {0, 0, 1, 0}, new int[] {0, 4, 5, 0}).can());
+        // To tell it a second time to the same mask is no step that can be done.
+        due(false, canvas(9, true, new int[] {0, 0, 1, 0}, new int[] {0, 3, 1, 0}).can());
+        // Nor to tell it to one that knew it at the beginning.
+        due(false, canvas(9, true, new int[] {0, 1, 0, 0}).can());
+
+        // Two secrets do not get into each other's way: 1 tells one, and is told the other one.
+        MaskHall x = new MaskHall();
+        x.knows(0, 0, true);
+        x.knows(0, 1, true);
+        x.step(MaskHall.TELL, 1, 2, 0);
+        x.step(MaskHall.TELL, 0, 1, 1);
+        x.step(MaskHall.GIVE, 0, 1, 0);
+        x.night(20);
+        due(true, x.can());
+
+        // What a mask learns ahead of a step stays known, though who told it falls ill.
+        MaskHall y = canvas(20, true, new int[] {0, 1, 2, 0});
+        enterAll(y, 0, 4);
+        due(MaskHall.TAKEN, y.tell(0, 4, 0));
+        y.ill(0);
+        due(true, y.can());
+        y.ill(4);
+        due(false, y.can());
     }
 
     private static void illAndBanned() {
